@@ -6,6 +6,11 @@ public final class BenchOrder {
     public static final int NONE = -1;
 
     private static final int MOST_SIGNS = 1000;
+    private static final int MOST_LETTERS = 8;
+    private static final int MOST_DIGITS = 4;
+    // A WORD is one long: letters are 1 to 26, so that no two WORDS are alike.
+    private static final int LETTER_ROOM = 32;
+    private static final int LETTER_BASE = 'a' - 1;
     private static final int MOST_PUPILS = 10;
     private static final int MOST_BENCHES = 6;
     private static final int MOST_SAYINGS = 40;
@@ -63,9 +68,8 @@ public final class BenchOrder {
 
     private final byte[] tape = new byte[MOST_SIGNS];
     private int signs;
-    private final School nobody = new School();
-    private final Reader reader = new Reader(nobody);
-    private final Sheet now = new Sheet(nobody);
+    private final Reader reader = new Reader();
+    private final Sheet now = new Sheet();
     private final Sheet[] marks = new Sheet[MARKS];
     private final Ladder ladder = new Ladder();
     private final Tally fitting = new Tally(false);
@@ -73,11 +77,11 @@ public final class BenchOrder {
     private final Breaks breaks = new Breaks();
     private final Asking asking = new Asking();
     private final Wishing wishing = new Wishing();
-    private final Season year = new Season(nobody);
+    private final Season year = new Season();
 
     public BenchOrder() {
         for (int i = 0; i < MARKS; i++) {
-            marks[i] = new Sheet(nobody);
+            marks[i] = new Sheet();
         }
     }
 
@@ -450,28 +454,20 @@ public final class BenchOrder {
         ABOVE_FACT("above", NONE, ABOVE, false),
         BELOW_FACT("below", NONE, BELOW, false);
 
-        final String text;
+        final long code;
         final int kind;
         final int fact;
         final boolean reserved;
 
         Word(String text, int kind, int fact, boolean reserved) {
-            this.text = text;
+            long all = 0;
+            for (int i = 0; i < text.length(); i++) {
+                all = all * LETTER_ROOM + (text.charAt(i) - LETTER_BASE);
+            }
+            this.code = all;
             this.kind = kind;
             this.fact = fact;
             this.reserved = reserved;
-        }
-
-        boolean spelledBy(byte[] signs, int from, int to) {
-            if (text.length() != to - from) {
-                return false;
-            }
-            for (int i = from; i < to; i++) {
-                if (text.charAt(i - from) != signs[i]) {
-                    return false;
-                }
-            }
-            return true;
         }
     }
 
@@ -501,7 +497,7 @@ public final class BenchOrder {
 
     /** All that a MARK holds: the SCHOOL, its SAYINGS, who sits where, what is PLANNED. */
     private static final class Sheet {
-        School school;
+        School school = new School();
         final int[] first = new int[MOST_SAYINGS];
         final int[] second = new int[MOST_SAYINGS];
         final int[] master = new int[MOST_SAYINGS];
@@ -510,8 +506,7 @@ public final class BenchOrder {
         final int[] planned = new int[MOST_PUPILS];
         boolean laid;
 
-        Sheet(School school) {
-            this.school = school;
+        Sheet() {
             Arrays.fill(seat, NONE);
             Arrays.fill(planned, NONE);
         }
@@ -653,12 +648,12 @@ public final class BenchOrder {
         private void takeWord() {
             name = 0;
             while (end < size && isLetter(signs[end])) {
-                name = name * 32 + (signs[end] - 'a' + 1);
+                name = name * LETTER_ROOM + (signs[end] - LETTER_BASE);
                 end++;
             }
-            kind = end - place <= 8 ? WORD : NO_TOKEN;
-            for (int i = 0; i < WORDS.length && word == null; i++) {
-                if (WORDS[i].spelledBy(signs, place, end)) {
+            kind = end - place <= MOST_LETTERS ? WORD : NO_TOKEN;
+            for (int i = 0; i < WORDS.length && kind == WORD && word == null; i++) {
+                if (WORDS[i].code == name) {
                     word = WORDS[i];
                 }
             }
@@ -670,7 +665,7 @@ public final class BenchOrder {
                 number = number * 10 + (signs[end] - '0');
                 end++;
             }
-            kind = end - place <= 4 ? NUMBER : NO_TOKEN;
+            kind = end - place <= MOST_DIGITS ? NUMBER : NO_TOKEN;
         }
 
         private static boolean isLetter(int sign) {
@@ -700,7 +695,10 @@ public final class BenchOrder {
 
     /** Reads a SCHOOL into a draft, so that all stays as it is where there is a FAULT. */
     private static final class Reader {
-        final Sheet draft;
+        private static final int LEVELS = 4;
+        private static final int TEST_LEVEL = 1;
+
+        final Sheet draft = new Sheet();
         private final Tokens tokens = new Tokens();
         private final long[] names = new long[MOST_PUPILS];
         // Whose liking each one has told, as bits.
@@ -712,10 +710,6 @@ public final class BenchOrder {
         private int number;
         private int who;
         private int fault;
-
-        Reader(School nobody) {
-            draft = new Sheet(nobody);
-        }
 
         int read(byte[] text, int length) {
             draft.school = new School();
@@ -855,61 +849,43 @@ public final class BenchOrder {
             wishTold = true;
             stepCount = 0;
             tokens.step();
-            if (!readChoice(0) || !takeSign(';')) {
+            if (!readLevel(0, 0) || !takeSign(';')) {
                 return false;
             }
             draft.school.wish = Arrays.copyOf(steps, stepCount);
             return true;
         }
 
-        private boolean readChoice(int depth) {
-            boolean good = readTest(depth);
-            for (int i = 0; i < MOST_SIGNS && good; i++) {
-                if (tokens.word != Word.AND_WORD && tokens.word != Word.OR_WORD) {
+        /** One level of E, the loosest first: and, or; then < and =, which join once only; then + and -; then *. */
+        private boolean readLevel(int level, int depth) {
+            if (level >= LEVELS) {
+                return readPart(depth);
+            }
+            int most = level == TEST_LEVEL ? 1 : MOST_SIGNS;
+            boolean good = readLevel(level + 1, depth);
+            for (int i = 0; i < most && good; i++) {
+                int step = joinerOf(level);
+                if (step == NO_STEP) {
                     return true;
                 }
-                int step = tokens.word == Word.AND_WORD ? AND : OR;
                 tokens.step();
-                good = readTest(depth) && putStep(step);
+                good = readLevel(level + 1, depth) && putStep(step);
             }
             return good;
         }
 
-        private boolean readTest(int depth) {
-            if (!readSum(depth)) {
-                return false;
+        /** What the token joins on a level; NO_STEP: nothing. */
+        private int joinerOf(int level) {
+            switch (level) {
+                case 0:
+                    return tokens.word == Word.AND_WORD ? AND : tokens.word == Word.OR_WORD ? OR : NO_STEP;
+                case TEST_LEVEL:
+                    return tokens.kind == '<' ? LESS : tokens.kind == '=' ? EQUAL : NO_STEP;
+                case 2:
+                    return tokens.kind == '+' ? PLUS : tokens.kind == '-' ? MINUS : NO_STEP;
+                default:
+                    return tokens.kind == '*' ? TIMES : NO_STEP;
             }
-            if (tokens.kind != '<' && tokens.kind != '=') {
-                return true;
-            }
-            int step = tokens.kind == '<' ? LESS : EQUAL;
-            tokens.step();
-            return readSum(depth) && putStep(step);
-        }
-
-        private boolean readSum(int depth) {
-            boolean good = readProduct(depth);
-            for (int i = 0; i < MOST_SIGNS && good; i++) {
-                if (tokens.kind != '+' && tokens.kind != '-') {
-                    return true;
-                }
-                int step = tokens.kind == '+' ? PLUS : MINUS;
-                tokens.step();
-                good = readProduct(depth) && putStep(step);
-            }
-            return good;
-        }
-
-        private boolean readProduct(int depth) {
-            boolean good = readPart(depth);
-            for (int i = 0; i < MOST_SIGNS && good; i++) {
-                if (tokens.kind != '*') {
-                    return true;
-                }
-                tokens.step();
-                good = readPart(depth) && putStep(TIMES);
-            }
-            return good;
         }
 
         private boolean readPart(int depth) {
@@ -930,7 +906,7 @@ public final class BenchOrder {
             if (negated) {
                 return readPart(depth + 1) && putStep(NOT);
             }
-            return readChoice(depth + 1) && takeSign(')');
+            return readLevel(0, depth + 1) && takeSign(')');
         }
 
         /** Each step has a token of its own, so that there is always room: a text is no longer than the steps. */
@@ -1199,11 +1175,11 @@ public final class BenchOrder {
         int bestQuestion(int what) {
             int one = NONE;
             int other = NONE;
-            long fewest = Long.MAX_VALUE;
+            long fewest = all();
             for (int a = 0; a < pupils; a++) {
                 for (int b = a + 1; b < pupils; b++) {
                     long left = Math.max(aheadOf(a, b), aheadOf(b, a));
-                    if (left < all() && left < fewest) {
+                    if (left < fewest) {
                         one = a;
                         other = b;
                         fewest = left;
@@ -1310,7 +1286,7 @@ public final class BenchOrder {
         /** The first of those who break the fewest if they stand right behind a set. */
         private int bestBehind(int set) {
             int best = 0;
-            int fewest = Integer.MAX_VALUE;
+            int fewest = MOST_SAYINGS + 1;
             for (int p = 0; p < pupils; p++) {
                 if ((set >> p & 1) == 0) {
                     int breaking = withBehind(set, p);
@@ -1582,14 +1558,10 @@ public final class BenchOrder {
 
     /** Days drawn by a SEED, on SAYINGS of its own. */
     private static final class Season {
-        final Sheet trial;
+        final Sheet trial = new Sheet();
         private final Ladder ladder = new Ladder();
         private final int[] place = new int[MOST_PUPILS];
         private long drawn;
-
-        Season(School nobody) {
-            trial = new Sheet(nobody);
-        }
 
         void open(Sheet from, int[] line, int seed) {
             trial.copyFrom(from);

@@ -25,6 +25,14 @@ final class FaceTest {
         for (Method m : BenchOrder.class.getDeclaredMethods()) {
             (Modifier.isPrivate(m.getModifiers()) ? hidden : seen).add(told(m));
         }
+        for (Class<?> inside : BenchOrder.class.getDeclaredClasses()) {
+            Check.due("static " + inside, Modifier.isStatic(inside.getModifiers()), true);
+            Check.due("not public " + inside, Modifier.isPublic(inside.getModifiers()), false);
+            for (Method m : inside.getDeclaredMethods()) {
+                hidden.add(told(m));
+            }
+        }
+        Check.due("some twelve classes", BenchOrder.class.getDeclaredClasses().length < 13, true);
         Check.due("methods " + seen, seen.equals(Set.of(METHODS)), true);
         for (String m : hidden) {
             String name = m.substring(m.indexOf(' ') + 1, m.indexOf('('));

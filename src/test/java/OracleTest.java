@@ -23,6 +23,9 @@ final class OracleTest {
         for (int seed = 0; seed < 1500; seed++) {
             new OracleTest(seed).play(seed % 50 == 0 ? 7 : seed % 7 == 0 ? 6 : 5, 60);
         }
+        for (int seed = 3000; seed < 3012; seed++) {
+            new OracleTest(seed).play(8, 25);
+        }
         for (int seed = 5000; seed < 11000; seed++) {
             new OracleTest(seed).texts();
         }

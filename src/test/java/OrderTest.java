@@ -212,6 +212,9 @@ final class OrderTest {
         Check.due("two of five", with(5, "ab cd").needed(), 5);
         Check.due("one into four", with(5, "ab bc cd").needed(), 3);
         Check.due("a fan", with(5, "ab ac ad ae").needed(), 5);
+        // The one kind of case where halving would need fewer: 8 orders, but no question leaves 4 and 4.
+        Check.due("8 orders", with(5, "ba ca ce db de").orders(), 8);
+        Check.due("more than 3 for 8", with(5, "ba ca ce db de").needed(), 4);
         Check.due("no order fits", with(3, "ab bc ca").needed(), -1);
     }
 

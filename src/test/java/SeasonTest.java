@@ -6,6 +6,7 @@ final class SeasonTest {
     public static void main(String[] args) {
         refused();
         known();
+        hundredDays();
         lastForty();
         nothingChanges();
         manySeeds();
@@ -29,6 +30,19 @@ final class SeasonTest {
         Check.due("a ring of two lasts until its first goes",
                 Check.of(Check.pupils(2) + "say b a 0;say a b 1;").season(7, 0), 39);
         Check.due("and one is dropped", Check.of(Check.pupils(2) + "say b a 0;say a b 1;").season(7, 1), 1);
+    }
+
+    private static void hundredDays() {
+        BenchOrder x = Check.of(Check.pupils(4) + "slip 1;");
+        Naive y = new Naive();
+        y.names.addAll(java.util.List.of("a", "b", "c", "d"));
+        y.slip = 1;
+        int[] seeds = {3656, 3100, 1413};
+        int[] days = {99, 100, -1};
+        for (int i = 0; i < 3; i++) {
+            Check.due("days of " + seeds[i], x.season(seeds[i], 0), days[i]);
+            Check.due("the model's days of " + seeds[i], y.season(seeds[i], 0), days[i]);
+        }
     }
 
     /** a b and b a: the row is a, b; each day says a b; the b a goes as the 41st comes. */

@@ -64,6 +64,9 @@ final class WishTest {
         law("4096*4096*128-1", 999);
         law("((((likes))))+((1+((other+1))*2))", 20);
         law("1+(2*(3+(4*(5+6))))", 95);
+        String waiting = "0 or 9<8+2*";
+        law((waiting + "(").repeat(4) + waiting + "1))))", 1);
+        law((waiting + "(").repeat(4) + waiting + "0))))", 0);
         BenchOrder x = Check.of(TWO + "like a b 3;");
         Check.due("without a line", x.wishes(0, 1), 3);
         Check.due("without a like", x.wishes(1, 0), 0);
