@@ -19,39 +19,23 @@ final class OrderTest {
         Check.end();
     }
 
-    /** Each text names two pupils, then the master where it is not 0: "ab ba1". */
-    private static BenchOrder with(int pupils, String sayings) {
-        BenchOrder x = Check.of(Check.pupils(pupils));
-        say(x, sayings);
-        return x;
-    }
-
-    private static void say(BenchOrder x, String sayings) {
-        for (String s : sayings.split(" ")) {
-            if (!s.isEmpty()) {
-                int master = s.length() > 2 ? s.charAt(2) - '0' : 0;
-                Check.due("say " + s, x.say(s.charAt(0) - 'a', s.charAt(1) - 'a', master) > 0, true);
-            }
-        }
-    }
-
     private static void orders() {
         int all = 1;
         for (int n = 1; n <= 10; n++) {
             all *= n;
-            Check.due("all orders of " + n, with(n, "").orders(), all);
+            Check.due("all orders of " + n, Check.with(n, "").orders(), all);
         }
-        Check.due("half", with(10, "ab").orders(), 1814400);
-        Check.due("the same twice", with(10, "ab ab1").orders(), 1814400);
-        Check.due("a row of ten", with(10, "ab bc cd de ef fg gh hi ij").orders(), 1);
-        Check.due("a ring of ten", with(10, "ab bc cd de ef fg gh hi ij ja").orders(), 0);
-        Check.due("both ways", with(2, "ab ba1").orders(), 0);
-        Check.due("two rows of five", with(10, "ab bc cd de fg gh hi ij").orders(), 252);
-        Check.due("a fan", with(4, "ab ac ad").orders(), 6);
+        Check.due("half", Check.with(10, "ab").orders(), 1814400);
+        Check.due("the same twice", Check.with(10, "ab ab1").orders(), 1814400);
+        Check.due("a row of ten", Check.with(10, "ab bc cd de ef fg gh hi ij").orders(), 1);
+        Check.due("a ring of ten", Check.with(10, "ab bc cd de ef fg gh hi ij ja").orders(), 0);
+        Check.due("both ways", Check.with(2, "ab ba1").orders(), 0);
+        Check.due("two rows of five", Check.with(10, "ab bc cd de fg gh hi ij").orders(), 252);
+        Check.due("a fan", Check.with(4, "ab ac ad").orders(), 6);
     }
 
     private static void sureAndSpan() {
-        BenchOrder x = with(5, "ab bc de");
+        BenchOrder x = Check.with(5, "ab bc de");
         Check.due("sure", x.sure(0, 2), 1);
         Check.due("sure", x.sure(2, 0), 2);
         Check.due("sure", x.sure(0, 3), 0);
@@ -68,24 +52,24 @@ final class OrderTest {
         Check.due("no such what", x.span(0, -1), -1);
         Check.due("none such", x.span(5, 0), -1);
         Check.due("none such", x.span(-1, 0), -1);
-        say(x, "ca1");
+        Check.say(x, "ca1");
         Check.due("no order fits", x.sure(3, 4), -1);
         Check.due("no order fits", x.span(3, 0), -1);
-        Check.due("alone", with(1, "").span(0, 1), 0);
+        Check.due("alone", Check.with(1, "").span(0, 1), 0);
     }
 
     private static void dropped() {
-        BenchOrder x = with(4, "ab ba1 ba1 bc cd db1");
+        BenchOrder x = Check.with(4, "ab ba1 ba1 bc cd db1");
         Check.due("both", x.dropped(-1), 2);
         Check.due("master 0", x.dropped(0), 0);
         Check.due("master 1", x.dropped(1), 0);
         Check.due("both again", x.dropped(-1), 2);
         Check.due("others", x.dropped(2), -2);
         Check.due("others", x.dropped(-2), -2);
-        say(x, "ba0 ca1 ac1");
+        Check.say(x, "ba0 ca1 ac1");
         Check.due("master 0", x.dropped(0), 1);
         Check.due("master 1", x.dropped(1), 1);
-        BenchOrder many = with(2, "");
+        BenchOrder many = Check.with(2, "");
         for (int i = 0; i < 40; i++) {
             many.say(i % 2, 1 - i % 2, 0);
         }
@@ -100,18 +84,18 @@ final class OrderTest {
     }
 
     private static void row() {
-        BenchOrder x = with(3, "");
+        BenchOrder x = Check.with(3, "");
         for (int i = 0; i < 3; i++) {
             Check.due("by numbers", x.row(i), i);
         }
         Check.due("none such", x.row(3), -1);
         Check.due("none such", x.row(-1), -1);
-        say(x, "cb");
+        Check.say(x, "cb");
         int[] due = {0, 2, 1};
         for (int i = 0; i < 3; i++) {
             Check.due("row", x.row(i), due[i]);
         }
-        say(x, "ba ba ac");
+        Check.say(x, "ba ba ac");
         // c, b, a breaks one as well, but b, a, c comes first.
         int[] then = {1, 0, 2};
         Check.due("one is dropped", x.dropped(-1), 1);
@@ -123,20 +107,20 @@ final class OrderTest {
     }
 
     private static void helped() {
-        Check.due("an order fits", with(3, "ab bc").helped(), 0);
-        Check.due("a ring", with(4, "ab bc ca ad").helped(), 7);
-        Check.due("two rings by one", with(5, "ab bc ca ad de ea").helped(), 1);
-        Check.due("two rings by none", with(4, "ab ba cd dc").helped(), 0);
-        Check.due("two", with(3, "bc cb1").helped(), 6);
+        Check.due("an order fits", Check.with(3, "ab bc").helped(), 0);
+        Check.due("a ring", Check.with(4, "ab bc ca ad").helped(), 7);
+        Check.due("two rings by one", Check.with(5, "ab bc ca ad de ea").helped(), 1);
+        Check.due("two rings by none", Check.with(4, "ab ba cd dc").helped(), 0);
+        Check.due("two", Check.with(3, "bc cb1").helped(), 6);
     }
 
     private static void unlike() {
-        Check.due("none", with(3, "ab ab1 bc cb").unlike(), 0);
-        Check.due("one", with(3, "ab ba1").unlike(), 1);
-        Check.due("the other way round", with(3, "ba ab1").unlike(), 1);
-        Check.due("once a pair", with(3, "ba ab1 ba ab1 ba1 ab").unlike(), 1);
-        Check.due("two", with(3, "ba ab1 ca1 ac").unlike(), 2);
-        Check.due("by one master", with(3, "ba1 ab1").unlike(), 0);
+        Check.due("none", Check.with(3, "ab ab1 bc cb").unlike(), 0);
+        Check.due("one", Check.with(3, "ab ba1").unlike(), 1);
+        Check.due("the other way round", Check.with(3, "ba ab1").unlike(), 1);
+        Check.due("once a pair", Check.with(3, "ba ab1 ba ab1 ba1 ab").unlike(), 1);
+        Check.due("two", Check.with(3, "ba ab1 ca1 ac").unlike(), 2);
+        Check.due("by one master", Check.with(3, "ba1 ab1").unlike(), 0);
     }
 
     private static void fraction(BenchOrder x, int a, int b, long above, long below) {
@@ -145,7 +129,7 @@ final class OrderTest {
     }
 
     private static void chance() {
-        BenchOrder x = with(3, "ab");
+        BenchOrder x = Check.with(3, "ab");
         fraction(x, 0, 1, 1, 1);
         fraction(x, 1, 0, 0, 1);
         fraction(x, 0, 2, 2, 3);
@@ -155,12 +139,12 @@ final class OrderTest {
         Check.due("none such", x.chance(-1, 1, 0), -1);
         Check.due("no such what", x.chance(0, 1, 2), -1);
         Check.due("no such what", x.chance(0, 1, -1), -1);
-        say(x, "ba1");
+        Check.say(x, "ba1");
         Check.due("no order counts", x.chance(0, 1, 0), -1);
         Check.due("no order counts", x.chance(0, 2, 1), -1);
         BenchOrder y = Check.of("pupil a helped tall 1;pupil b plain tall 1;slip 3;say a b 0;");
         fraction(y, 0, 1, 1, 4);
-        say(y, "ba");
+        Check.say(y, "ba");
         fraction(y, 0, 1, 1, 6);
         BenchOrder z = Check.of("pupil a plain tall 1;pupil b helped tall 1;slip 1;say a b 0;");
         fraction(z, 0, 1, 7, 8);
@@ -186,60 +170,60 @@ final class OrderTest {
     }
 
     private static void next() {
-        question(with(2, ""), 0, 1, 1);
-        question(with(10, ""), 0, 1, 1814400);
-        question(with(4, "ab ac"), 1, 2, 4);
-        question(with(5, "ab bc cd"), 1, 4, 3);
-        BenchOrder x = with(3, "ab");
+        question(Check.with(2, ""), 0, 1, 1);
+        question(Check.with(10, ""), 0, 1, 1814400);
+        question(Check.with(4, "ab ac"), 1, 2, 4);
+        question(Check.with(5, "ab bc cd"), 1, 4, 3);
+        BenchOrder x = Check.with(3, "ab");
         question(x, 0, 2, 2);
         Check.due("others", x.next(3), -1);
         Check.due("others", x.next(-1), -1);
-        say(x, "bc");
+        Check.say(x, "bc");
         Check.due("one alone", x.next(0), -1);
-        say(x, "ca");
+        Check.say(x, "ca");
         Check.due("no order fits", x.next(2), -1);
-        Check.due("alone", with(1, "").next(0), -1);
+        Check.due("alone", Check.with(1, "").next(0), -1);
     }
 
     private static void needed() {
         int[] due = {0, 1, 3, 5, 7};
         for (int n = 1; n <= 5; n++) {
-            Check.due("needed by " + n, with(n, "").needed(), due[n - 1]);
+            Check.due("needed by " + n, Check.with(n, "").needed(), due[n - 1]);
         }
-        Check.due("more than five", with(6, "ab bc cd de ef").needed(), -1);
-        Check.due("known", with(5, "ab bc cd de").needed(), 0);
-        Check.due("one of five", with(5, "ab").needed(), 6);
-        Check.due("two of five", with(5, "ab cd").needed(), 5);
-        Check.due("one into four", with(5, "ab bc cd").needed(), 3);
-        Check.due("a fan", with(5, "ab ac ad ae").needed(), 5);
+        Check.due("more than five", Check.with(6, "ab bc cd de ef").needed(), -1);
+        Check.due("known", Check.with(5, "ab bc cd de").needed(), 0);
+        Check.due("one of five", Check.with(5, "ab").needed(), 6);
+        Check.due("two of five", Check.with(5, "ab cd").needed(), 5);
+        Check.due("one into four", Check.with(5, "ab bc cd").needed(), 3);
+        Check.due("a fan", Check.with(5, "ab ac ad ae").needed(), 5);
         // The one kind of case where halving would need fewer: 8 orders, but no question leaves 4 and 4.
-        Check.due("8 orders", with(5, "ba ca ce db de").orders(), 8);
-        Check.due("more than 3 for 8", with(5, "ba ca ce db de").needed(), 4);
-        Check.due("no order fits", with(3, "ab bc ca").needed(), -1);
+        Check.due("8 orders", Check.with(5, "ba ca ce db de").orders(), 8);
+        Check.due("more than 3 for 8", Check.with(5, "ba ca ce db de").needed(), 4);
+        Check.due("no order fits", Check.with(3, "ab bc ca").needed(), -1);
     }
 
     private static void newOne() {
-        BenchOrder x = with(5, "ab bc cd");
+        BenchOrder x = Check.with(5, "ab bc cd");
         Check.due("five places", x.newOne(4), 3);
         Check.due("the others are not known", x.newOne(0), -1);
-        say(x, "ae");
+        Check.say(x, "ae");
         Check.due("four places", x.newOne(4), 2);
-        say(x, "be ed");
+        Check.say(x, "be ed");
         Check.due("two places", x.newOne(4), 1);
-        say(x, "ec");
+        Check.say(x, "ec");
         Check.due("one place", x.newOne(4), 0);
-        say(x, "ea");
+        Check.say(x, "ea");
         Check.due("nowhere", x.newOne(4), -1);
         Check.due("none such", x.newOne(5), -1);
         Check.due("none such", x.newOne(-1), -1);
-        Check.due("alone", with(1, "").newOne(0), 0);
-        Check.due("two", with(2, "").newOne(0), 1);
-        BenchOrder ring = with(4, "ab bc ca");
+        Check.due("alone", Check.with(1, "").newOne(0), 0);
+        Check.due("two", Check.with(2, "").newOne(0), 1);
+        BenchOrder ring = Check.with(4, "ab bc ca");
         Check.due("the others go in a ring", ring.newOne(3), -1);
         Check.due("without one of the ring", ring.newOne(0), -1);
-        BenchOrder ten = with(10, "ab bc cd de ef fg gh hi");
+        BenchOrder ten = Check.with(10, "ab bc cd de ef fg gh hi");
         Check.due("ten places", ten.newOne(9), 4);
-        say(ten, "ja");
+        Check.say(ten, "ja");
         Check.due("at the head", ten.newOne(9), 0);
     }
 
@@ -255,7 +239,7 @@ final class OrderTest {
             Check.due("next", x.next(2), 12);
             Check.due("wish", x.wishes(2, 3), 0);
             Check.due("rests", x.rests(), 3);
-            say(x, "dc ca");
+            Check.say(x, "dc ca");
             Check.due("orders", x.orders(), 4);
             Check.due("sure", x.sure(3, 2), 1);
             Check.due("chance", x.chance(3, 2, 1) > 2, true);

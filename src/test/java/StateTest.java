@@ -1,5 +1,3 @@
-import java.util.NoSuchElementException;
-
 /** Promises 4 to 7 (pupil, say, unsay, saying), 19 to 22 (seats), 27 (mark) and 28 (count). */
 final class StateTest {
     private static final String FOUR = "pupil a plain tall 9;pupil b proud tall 5;pupil c shy tall 5;"
@@ -151,36 +149,28 @@ final class StateTest {
         Check.due("two rings and a chain of six", ten.changes(), 8);
     }
 
-    private static int seen(BenchOrder x, int pupil) {
-        try {
-            return x.hidden(pupil);
-        } catch (NoSuchElementException e) {
-            return -77;
-        }
-    }
-
     private static void hidden() {
         BenchOrder x = Check.of("pupil a plain tall 9;pupil b plain tall 5;pupil c plain tall 5;pupil d plain tall 4;"
                 + "bench row 1 worth 0;bench row 1 worth 0;bench row 5 worth 0;bench row 0 worth 9;");
-        Check.due("stands", seen(x, 0), -77);
-        Check.due("none such", seen(x, 4), -77);
-        Check.due("none such", seen(x, -1), -77);
+        Check.due("stands", Check.hidden(x, 0), Check.THROWN);
+        Check.due("none such", Check.hidden(x, 4), Check.THROWN);
+        Check.due("none such", Check.hidden(x, -1), Check.THROWN);
         x.sit(0, 0);
         x.sit(1, 2);
         x.sit(2, 4);
-        Check.due("in the same row", seen(x, 1), 0);
-        Check.due("as tall is not taller", seen(x, 2), 1);
+        Check.due("in the same row", Check.hidden(x, 1), 0);
+        Check.due("as tall is not taller", Check.hidden(x, 2), 1);
         x.sit(3, 5);
-        Check.due("on the other side", seen(x, 3), 0);
+        Check.due("on the other side", Check.hidden(x, 3), 0);
         x.sit(2, -1);
         x.sit(3, 4);
-        Check.due("both", seen(x, 3), 2);
+        Check.due("both", Check.hidden(x, 3), 2);
         x.sit(2, 6);
-        Check.due("three", seen(x, 3), 3);
-        Check.due("the row counts, not the bench", seen(x, 1), 0);
+        Check.due("three", Check.hidden(x, 3), 3);
+        Check.due("the row counts, not the bench", Check.hidden(x, 1), 0);
         x.sit(2, 7);
-        Check.due("the side counts", seen(x, 3), 2);
-        Check.due("none is ahead of the taller", seen(x, 0), 0);
+        Check.due("the side counts", Check.hidden(x, 3), 2);
+        Check.due("none is ahead of the taller", Check.hidden(x, 0), 0);
     }
 
     private static void marks() {
