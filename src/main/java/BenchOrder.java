@@ -592,8 +592,8 @@ public final class BenchOrder {
         int tallerAhead(int pupil) {
             int taller = 0;
             for (int other = 0; other < school.pupils; other++) {
-                boolean sits = seat[other] != NONE && other != pupil;
-                if (sits && school.tall[other] > school.tall[pupil] && sitsBefore(seat[other], seat[pupil])) {
+                boolean isTaller = seat[other] != NONE && school.tall[other] > school.tall[pupil];
+                if (isTaller && sitsBefore(seat[other], seat[pupil])) {
                     taller++;
                 }
             }
@@ -695,8 +695,8 @@ public final class BenchOrder {
 
     /** Reads a SCHOOL into a draft, so that all stays as it is where there is a FAULT. */
     private static final class Reader {
-        private static final int LEVELS = 4;
         private static final int TEST_LEVEL = 1;
+        private static final int LAST_LEVEL = 3;
 
         final Sheet draft = new Sheet();
         private final Tokens tokens = new Tokens();
@@ -858,20 +858,22 @@ public final class BenchOrder {
 
         /** One level of E, the loosest first: and, or; then < and =, which join once only; then + and -; then *. */
         private boolean readLevel(int level, int depth) {
-            if (level >= LEVELS) {
-                return readPart(depth);
-            }
             int most = level == TEST_LEVEL ? 1 : MOST_SIGNS;
-            boolean good = readLevel(level + 1, depth);
+            boolean good = readOperand(level, depth);
             for (int i = 0; i < most && good; i++) {
                 int step = joinerOf(level);
                 if (step == NO_STEP) {
                     return true;
                 }
                 tokens.step();
-                good = readLevel(level + 1, depth) && putStep(step);
+                good = readOperand(level, depth) && putStep(step);
             }
             return good;
+        }
+
+        /** What a level joins: the next tighter level, a PART behind the last one. */
+        private boolean readOperand(int level, int depth) {
+            return level < LAST_LEVEL ? readLevel(level + 1, depth) : readPart(depth);
         }
 
         /** What the token joins on a level; NO_STEP: nothing. */
@@ -904,7 +906,7 @@ public final class BenchOrder {
                 return putStep(step);
             }
             if (negated) {
-                return readPart(depth + 1) && putStep(NOT);
+                return readOperand(LAST_LEVEL, depth + 1) && putStep(NOT);
             }
             return readLevel(0, depth + 1) && takeSign(')');
         }
@@ -1386,17 +1388,27 @@ public final class BenchOrder {
             }
             for (int a = 0; a < pupils; a++) {
                 for (int b = a + 1; b < pupils; b++) {
-                    long lowYes = lowLeft & low[a * MOST_ASKED + b];
-                    long highYes = highLeft & high[a * MOST_ASKED + b];
-                    int yes = Long.bitCount(lowYes) + Long.bitCount(highYes);
-                    boolean asked = yes > 0 && yes < left && Math.max(yes, left - yes) <= 1 << asks - 1;
-                    if (asked && suffice(lowYes, highYes, asks - 1)
-                            && suffice(lowLeft & ~lowYes, highLeft & ~highYes, asks - 1)) {
+                    if (sufficeBehind(a * MOST_ASKED + b, lowLeft, highLeft, asks - 1)) {
                         return true;
                     }
                 }
             }
             return false;
+        }
+
+        /** Whether so many more suffice once two are asked about, whatever is answered. */
+        private boolean sufficeBehind(int pair, long lowLeft, long highLeft, int asks) {
+            long lowYes = lowLeft & low[pair];
+            long highYes = highLeft & high[pair];
+            long lowNo = lowLeft & ~lowYes;
+            long highNo = highLeft & ~highYes;
+            int yes = Long.bitCount(lowYes) + Long.bitCount(highYes);
+            int no = Long.bitCount(lowNo) + Long.bitCount(highNo);
+            // What is known already tells nothing, and so many answers tell so many ORDERS apart at most.
+            if (yes == 0 || no == 0 || Math.max(yes, no) > 1 << asks) {
+                return false;
+            }
+            return suffice(lowYes, highYes, asks) && suffice(lowNo, highNo, asks);
         }
 
         private static long firstBits(int bits) {
@@ -1525,13 +1537,17 @@ public final class BenchOrder {
             }
             for (int other = one + 1; other < pupils; other++) {
                 if (mate[other] == NONE) {
-                    mate[one] = other;
-                    mate[other] = one;
-                    pairFrom(one + 1, depth + 1);
-                    mate[other] = NONE;
-                    mate[one] = NONE;
+                    pairUp(one, other, depth + 1);
                 }
             }
+        }
+
+        private void pairUp(int one, int other, int depth) {
+            mate[one] = other;
+            mate[other] = one;
+            pairFrom(one + 1, depth);
+            mate[other] = NONE;
+            mate[one] = NONE;
         }
 
         private void keepIfAtRest() {
